@@ -662,13 +662,11 @@ public final class AlarmTower {
         }
         switch (what) {
             case NOTHING:
-                board.keepNothing();
+            case NOTE:
+                board.keepBare(what);
                 return 0;
             case ALARM:
                 return keepAlarm(board, alarmAt(k));
-            case NOTE:
-                board.keepNote();
-                return 0;
             case LONGS:
             case BOOLEANS:
                 return keepRow(board, what, sourceAt(k));
@@ -1380,23 +1378,15 @@ public final class AlarmTower {
         // Booleans stand in it as 1 and 0.
         final long[] row = new long[MAX_ROW];
 
-        void keepNothing() {
-            kind = NOTHING;
+        /** Nothing, or a note: no call asks for its number. */
+        void keepBare(int bareKind) {
+            kind = bareKind;
             alarm = null;
-            size = 0;
         }
 
         void keepAlarm(Alarm kept) {
             kind = ALARM;
             alarm = kept;
-            size = 0;
-        }
-
-        /** No call asks for the number of a note. */
-        void keepNote() {
-            kind = NOTE;
-            alarm = null;
-            size = 0;
         }
 
         void keepRow(int rowKind, int rowSize) {

@@ -263,6 +263,12 @@ public final class PromiseTests {
         x.rule(303, 10, 33, 10101, -1);
         same("one of three is 33 of 100", truths(x, 10, 10, 11, 11), "0011");
         x = tower(0);
+        x.rule(303, 10, 67, 10101, -1);
+        same("two of three is less than 67 of 100", truths(x, 11, 11, 10), "110");
+        x = tower(0);
+        x.rule(303, 10, 66, 10101, -1);
+        same("two of three is 66 of 100", truths(x, 11, 11, 10), "111");
+        x = tower(0);
         x.rule(203, 10, 50, 10101, -1);
         same("the longer window", truths(x, 5, 5, 5, 11, 11), "00001");
     }
@@ -369,9 +375,59 @@ public final class PromiseTests {
         due("hold 40", x.hold(0, 1, 0), -2);
         due("hold 40, over others too", x.hold(3, 0, 2), -2);
         due("hold 40, not as told", x.hold(3, 3, 2), -1);
+        holdOver();
         heldWhile(0, 1, 1, 1);
         heldWhile(1, 1, 1, 0);
         heldWhile(2, 1, 0, 0);
+    }
+
+    private static void holdOver() {
+        AlarmTower x = tower(0);
+        for (int i = 0; i < 5; i++) {
+            plain(x);
+        }
+        due("hold(4, 2, 0)", x.hold(4, 2, 0), 0);
+        due("hold(2, 1, 1)", x.hold(2, 1, 1), 0);
+        due("hold(1, 0, 2)", x.hold(1, 0, 2), 0);
+        due("hold(0, 4, 0)", x.hold(0, 4, 0), -3);
+        due("hold(0, 2, 0)", x.hold(0, 2, 0), -3);
+        due("hold(2, 4, 0)", x.hold(2, 4, 0), -3);
+        due("hold(1, 4, 2)", x.hold(1, 4, 2), -3);
+        due("hold(0, 3, 0)", x.hold(0, 3, 0), 0);
+        due("hold(3, 4, 0)", x.hold(3, 4, 0), -3);
+        due("hold(4, 3, 0)", x.hold(4, 3, 0), 0);
+        // rule 0 holds rule 1; what is held ends held, and is held no more
+        x = tower(0);
+        x.rule(0, 10, 0, 10101, -1);
+        x.rule(1, 5, 5, 10101, -1);
+        due("hold(1, 0, 0)", x.hold(1, 0, 0), 0);
+        tickWith(x, 0, 20);
+        due("held by rule 0", x.alarm(1, 5), 1);
+        due("rule 0 is not held", x.alarm(0, 5), 0);
+        tickWith(x, 0, 3);
+        due("it ended", x.alarm(1, 3), 2);
+        due("held no more", x.alarm(1, 5), 0);
+        due("not clear", x.alarm(1, 7), 0);
+        // a held one holds others as well
+        x = tower(0);
+        plain(x);
+        plain(x);
+        plain(x);
+        x.hold(1, 0, 0);
+        x.hold(2, 1, 0);
+        tickWith(x, 0, 20);
+        due("held", x.alarm(1, 5), 1);
+        due("held by a held one", x.alarm(2, 5), 1);
+        // told behind a tick, it counts in the next
+        x = tower(0);
+        plain(x);
+        plain(x);
+        tickWith(x, 0, 20);
+        x.hold(0, 1, 2);
+        due("as behind the latest tick", x.alarm(0, 5), 0);
+        due("as behind the latest tick", x.whyNot(0, 0), 5);
+        x.tick();
+        due("held in the next", x.alarm(0, 5), 1);
     }
 
     /** The alarm of rule 1 for source 1 holds those of rule 0 for sources 1, 0, 2, as they are alike. */
@@ -1426,10 +1482,24 @@ public final class PromiseTests {
         for (int what = 0; what < want.length; what++) {
             due("count(" + what + ")", x.count(what), want[what]);
         }
+        due("the first letter is not answered", answeredLess(), 1);
         due("count(-1)", x.count(-1), -1);
         due("count(9)", x.count(9), -1);
         due("count(MIN)", x.count(MIN), -1);
         due("count(MAX)", x.count(MAX), -1);
+    }
+
+    /** Of two letters the second is answered: how many are not. */
+    private static int answeredLess() {
+        AlarmTower x = tower(0, 1);
+        plain(x);
+        x.hand();
+        x.waits(0, 1, 100, 1);
+        x.value(0, 20);
+        tickWith(x, 1, 20);
+        due("count(7)", x.count(7), 2);
+        x.answer(1, 0);
+        return x.count(7);
     }
 
     private static void keep() {
