@@ -1,8 +1,5 @@
 /** For each promise of the document: ordinary inputs, the edges that it names, and wrong inputs. */
-public final class PromiseTests {
-    private static final int MIN = Integer.MIN_VALUE;
-    private static final int MAX = Integer.MAX_VALUE;
-
+public final class PromiseTests extends Towers {
     private PromiseTests() {
     }
 
@@ -53,62 +50,6 @@ public final class PromiseTests {
         toss();
         Expect.end();
     }
-
-    // ------------------------------------------------------------------ helps
-
-    private static void due(String call, long got, long want) {
-        Expect.due(call, got, want);
-    }
-
-    private static int ticks(AlarmTower x, int n) {
-        int sent = 0;
-        for (int i = 0; i < n; i++) {
-            sent += x.tick();
-        }
-        return sent;
-    }
-
-    /** One tick, with the value told of a source. */
-    private static int tickWith(AlarmTower x, int source, double v) {
-        x.value(source, v);
-        return x.tick();
-    }
-
-    /** Sources at the sites told. */
-    private static AlarmTower tower(int... sites) {
-        AlarmTower x = new AlarmTower();
-        for (int site : sites) {
-            x.source(site);
-        }
-        return x;
-    }
-
-    /** A rule that is true while the value is above 10; wait 1, end 1, grade 1. */
-    private static int plain(AlarmTower x) {
-        return x.rule(0, 10, 0, 10101, -1);
-    }
-
-    /** The truth in each tick of one rule for one source, as a text of 1, 0 and -; a value of NaN is silence. */
-    private static String truths(AlarmTower x, double... values) {
-        StringBuilder out = new StringBuilder();
-        for (double v : values) {
-            if (v == v) {
-                x.value(0, v);
-            }
-            x.tick();
-            int now = x.truth(0, 0);
-            out.append(now == -1 ? '-' : (char) ('0' + now));
-        }
-        return out.toString();
-    }
-
-    private static void same(String call, String got, String want) {
-        if (!got.equals(want)) {
-            Expect.fault(call + " answered " + got + ", due is " + want);
-        }
-    }
-
-    private static final double SILENT = 0.0 / 0.0;
 
     // ------------------------------------------------------------------ 1 to 12
 
@@ -838,14 +779,6 @@ public final class PromiseTests {
         due("why", x.why(1), 2);
     }
 
-    private static int ticks20(AlarmTower x, int n) {
-        int sent = 0;
-        for (int i = 0; i < n; i++) {
-            sent += tickWith(x, 0, 20);
-        }
-        return sent;
-    }
-
     private static void tickLimits() {
         // 16 groups (one a site and rule) of which each sends in each tick: 200 letters in all
         AlarmTower x = new AlarmTower();
@@ -1564,18 +1497,6 @@ public final class PromiseTests {
         x.source(0);
         x.keep(6, 4, 2);
         due("one that came later", x.element(6, 59), 0);
-    }
-
-    /** 0 if the element is answered, 1 for IllegalArgumentException, 2 for IllegalStateException. */
-    private static int state(AlarmTower x, int d, int i) {
-        try {
-            x.element(d, i);
-            return 0;
-        } catch (IllegalArgumentException e) {
-            return 1;
-        } catch (IllegalStateException e) {
-            return 2;
-        }
     }
 
     private static void make() {
