@@ -41,6 +41,8 @@ public final class AskingEdgeTests extends Towers {
         leastRoomOrNot();
         leastChangesNothing();
         countOfEach();
+        countThatLast();
+        countNotAnswered();
         countOf9();
         Expect.end();
     }
@@ -653,6 +655,40 @@ public final class AskingEdgeTests extends Towers {
         due("a site without an alarm is no group", x.count(8), 1);
         tell(x, 5, 20);
         due("groups that have any", x.count(8), 2);
+    }
+
+    private static void countThatLast() {
+        Expect.part("26: 5 that last");
+        AlarmTower x = tower(0, 0, 0);
+        plain(x);
+        tell(x, 20, 20, 20);
+        due("all", x.count(5), 3);
+        tell(x, 20, 5, 20);
+        due("the first and the last", x.count(5), 2);
+        tell(x, 20, 5, 5);
+        due("the first", x.count(5), 1);
+        tell(x, 5, 5, 5);
+        due("none", x.count(5), 0);
+        due("alarms", x.count(4), 3);
+    }
+
+    private static void countNotAnswered() {
+        Expect.part("26: 7 not answered");
+        AlarmTower x = tower(0, 1, 2);
+        plain(x);
+        x.hand();
+        x.waits(0, 50, 100, 50);
+        tell(x, 20, 20, 20);
+        due("none is answered", x.count(7), 3);
+        x.answer(1, 0);
+        due("the first and the last are not", x.count(7), 2);
+        x.answer(2, 0);
+        due("the first is not", x.count(7), 1);
+        x.answer(2, 0);
+        due("the first is not, still", x.count(7), 1);
+        x.answer(0, 0);
+        due("all are", x.count(7), 0);
+        due("letters", x.count(6), 3);
     }
 
     private static void countOf9() {

@@ -19,6 +19,7 @@ public final class BoardEdgeTests extends Towers {
         keepOverAnother();
         makeUpTo60();
         makeOfNone();
+        makeOfZeros();
         makeSizeBelow0();
         elementsFrom0();
         elementOfNoRow();
@@ -244,6 +245,24 @@ public final class BoardEdgeTests extends Towers {
         due("it is a row of booleans", x.copy(1, 0, 1, 0, 0), 0);
         due("they are not of one kind", x.copy(0, 0, 1, 0, 0), -12);
         due("weight", x.weight(0), -12);
+    }
+
+    private static void makeOfZeros() {
+        Expect.part("28: longs 0, or booleans false");
+        AlarmTower x = boards();
+        due("longs over longs", x.make(3, 3, 6), 0);
+        row(x, 3, 0, 0, 0, 0, 0, 0);
+        due("booleans over booleans", x.make(4, 4, 5), 0);
+        row(x, 4, 0, 0, 0, 0, 0);
+        x.keep(3, 3, 0);
+        due("booleans over longs", x.make(3, 4, 2), 0);
+        row(x, 3, 0, 0);
+        due("an alarm", x.make(1, 3, 1), 0);
+        row(x, 1, 0);
+        due("a note", x.make(2, 4, 1), 0);
+        row(x, 2, 0);
+        due("nothing", x.make(0, 4, 1), 0);
+        row(x, 0, 0);
     }
 
     private static void makeSizeBelow0() {

@@ -45,6 +45,7 @@ public final class LetterEdgeTests extends Towers {
         rowByLeastStep();
         rowAsAtItsTick();
         upTicksLater();
+        upAsToldThen();
         upAfterTheLastToAll();
         nobodyAwake();
         upEndsByAnAnswer();
@@ -162,10 +163,12 @@ public final class LetterEdgeTests extends Towers {
         due("one that fits", x.alarm(0, 6), 1);
         tell(x, 20);
         due("none that fits", x.alarm(0, 6), 0);
-        // one that ended while it is silenced is not silenced
         x.silence(3, 0, 5, 9, 0);
+        tell(x, 20);
+        due("one that lasts", x.alarm(0, 6), 1);
         tell(x, 5);
-        due("one that ended", x.alarm(0, 6), 0);
+        due("one that ended while it was silenced", x.alarm(0, 6), 0);
+        due("is not clear", x.alarm(0, 7), 0);
     }
 
     private static void clearIfNeither() {
@@ -286,6 +289,12 @@ public final class LetterEdgeTests extends Towers {
         due("not yet", ticks20(y, 10), 0);
         y.waits(10, 1, 100, 1);
         due("since 10 ticks", ticks20(y, 1), 1);
+        AlarmTower z = tower(0);
+        plain(z);
+        z.waits(50, 1, 100, 1);
+        due("not yet", ticks20(z, 10), 0);
+        z.waits(3, 1, 100, 1);
+        due("since 10 ticks, 3 were enough: or longer", ticks20(z, 1), 1);
     }
 
     private static void firstOfOneOfThem() {
@@ -686,6 +695,26 @@ public final class LetterEdgeTests extends Towers {
         }
         due("sent", tell(x, 20), 1);
         return x;
+    }
+
+    private static void upAsToldThen() {
+        Expect.part("7: UP as told by waits()");
+        AlarmTower x = rowOf3(50);
+        ticks(x, 9);
+        x.waits(0, 50, 100, 4);
+        due("behind tick 10", x.letter(0, 3), 0);
+        x.tick();
+        due("UP is over long since: to the next one, not farther", x.letter(0, 3), 1);
+        due("at", x.letter(0, 4), 11);
+        ticks(x, 3);
+        due("before 11 + 4", x.letter(0, 3), 1);
+        x.tick();
+        due("at 11 + 4", x.letter(0, 3), 2);
+        x.waits(0, 50, 100, 7);
+        ticks(x, 6);
+        due("before 15 + 7", x.letter(0, 3), 2);
+        x.tick();
+        due("at 15 + 7", x.letter(0, 3), -2);
     }
 
     private static void upAfterTheLastToAll() {

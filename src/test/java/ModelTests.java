@@ -15,11 +15,17 @@ public final class ModelTests {
     private boolean same = true;
     private final int tickShare;
     private final int span;
+    /** Many sources and rules at few sites: rooms become full. */
+    private final boolean crowded;
+    /** Nearly all ticks are closed before the other calls come. */
+    private final boolean late;
 
     private ModelTests(int seed) {
         random = new Random(seed);
         tickShare = 10 + random.nextInt(60);
         span = 3 + random.nextInt(20);
+        crowded = seed % 6 == 0;
+        late = seed % 8 == 0;
     }
 
     public static void main(String[] args) {
@@ -78,11 +84,11 @@ public final class ModelTests {
     }
 
     private void setUp() {
-        int sources = 1 + any(hit(20) ? 17 : 5);
+        int sources = crowded ? 8 + any(10) : 1 + any(hit(20) ? 17 : 5);
         for (int i = 0; i < sources; i++) {
             tellSource();
         }
-        int rules = 1 + any(hit(20) ? 17 : 6);
+        int rules = crowded ? 8 + any(10) : 1 + any(hit(20) ? 17 : 6);
         for (int i = 0; i < rules; i++) {
             tellRule();
         }
@@ -100,6 +106,10 @@ public final class ModelTests {
         int holds = any(5);
         for (int i = 0; i < holds; i++) {
             tellHold();
+        }
+        int ticks = late ? 350 + any(52) : 0;
+        for (int i = 0; i < ticks; i++) {
+            due("tick()", tower.tick(), model.tick());
         }
     }
 
@@ -175,7 +185,7 @@ public final class ModelTests {
     // ------------------------------------------------------------------ what is told
 
     private void tellSource() {
-        int site = hit(80) ? any(3) : between(0, 9);
+        int site = hit(80) ? any(crowded ? 2 : 3) : between(0, 9);
         due("source(" + site + ")", tower.source(site), model.source(site));
     }
 

@@ -82,6 +82,8 @@ public final class RuleEdgeTests extends Towers {
         same("b behind a 1", truthsOf(1, 30, 10, 31, 10), "11");
         same("b - 1 behind a 1", truthsOf(1, 30, 10, 31, 9), "10");
         same("b again and again", truthsOf(1, 30, 10, 31, 10, 10, 10), "1111");
+        same("between, and a, behind a 1", truthsOf(1, 30, 10, 31, 20, 11, 30), "1111");
+        same("far below b", truthsOf(1, 30, 10, 31, -100, 20), "100");
         same("b behind b - 1", truthsOf(1, 30, 10, 31, 9, 10), "100");
         same("b is a", truthsOf(1, 10, 10, 11, 10, 9, 10, 11), "11001");
         same("between at first", truthsOf(1, 30, 10, 20), "0");

@@ -26,6 +26,8 @@ public final class TellingEdgeTests extends Towers {
         othersAny();
         holdsUpTo40();
         holdsOfThemselves();
+        holdsInAnyOrder();
+        holdsBesideEachOther();
         silencesUpTo20();
         silenceTicksFrom1To1000();
         silenceOfAnySite();
@@ -34,6 +36,7 @@ public final class TellingEdgeTests extends Towers {
         masksFrom0To7();
         maskWithoutAnAlarm();
         waitsWithinTheirRanges();
+        waitsAtFirst();
         handsFrom0To7();
         shiftPlacesFrom0To47();
         shiftOf1To48Places();
@@ -357,6 +360,60 @@ public final class TellingEdgeTests extends Towers {
         due("over none", x.hold(14, 15, 1), 0);
     }
 
+    private static void holdsInAnyOrder() {
+        Expect.part("4: r would hold itself, whatever their numbers and the order of the calls");
+        int[][] orders = {{0, 1, 2, 3}, {3, 2, 1, 0}, {2, 0, 3, 1}, {1, 3, 0, 2}};
+        for (int[] o : orders) {
+            for (int first = 0; first < 3; first++) {
+                AlarmTower x = tower(0);
+                for (int r = 0; r < 6; r++) {
+                    plain(x);
+                }
+                // each of the row is held by the next one
+                for (int i = 0; i < 3; i++) {
+                    int at = (first + i) % 3;
+                    due("hold", x.hold(o[at], o[at + 1], i), 0);
+                }
+                for (int i = 0; i < 4; i++) {
+                    for (int j = 0; j < 4; j++) {
+                        int want = i == j ? -1 : i > j ? -3 : 0;
+                        due("hold(" + o[i] + ", " + o[j] + ")", x.hold(o[i], o[j], 0), want);
+                    }
+                    due("one beside the row holds", x.hold(o[i], 5, 0), 0);
+                    due("one beside the row is held", x.hold(4, o[i], 0), 0);
+                    due("it would hold itself", x.hold(o[i], 4, 0), -3);
+                    due("it would hold itself", x.hold(5, o[i], 0), -3);
+                }
+            }
+        }
+    }
+
+    private static void holdsBesideEachOther() {
+        Expect.part("4: a RULE is held by more than one");
+        for (int like = 0; like <= 2; like++) {
+            AlarmTower x = tower(0);
+            plain(x);
+            x.rule(0, 50, 0, 10101, -1);
+            x.rule(0, 90, 0, 10101, -1);
+            due("by rule 2", x.hold(0, 2, like), 0);
+            due("and by rule 1", x.hold(0, 1, like), 0);
+            tell(x, 60);
+            due("rule 1 alone", x.alarm(0, 5), 1);
+            tell(x, 95);
+            due("both", x.alarm(0, 5), 1);
+            tell(x, 20);
+            due("none", x.alarm(0, 5), 0);
+            AlarmTower y = tower(0);
+            y.rule(0, 20, 0, 10101, -1);
+            y.rule(0, 50, 0, 10101, -1);
+            y.rule(1, 40, 30, 10101, -1);
+            due("by rule 2", y.hold(0, 2, like), 0);
+            due("and by rule 1", y.hold(0, 1, like), 0);
+            tell(y, 45);
+            due("rule 2 alone", y.alarm(0, 5), 1);
+        }
+    }
+
     // ------------------------------------------------------------------ 5
 
     private static void silencesUpTo20() {
@@ -495,6 +552,26 @@ public final class TellingEdgeTests extends Towers {
         due("before 100 ticks", ticks20(x, 99), 0);
         due("each 100", ticks20(x, 1), 1);
         due("when", x.letter(2, 0), 201);
+    }
+
+    private static void waitsAtFirst() {
+        Expect.part("7: 2, 5, 20 at first, UP 3 at first");
+        AlarmTower x = tower(0, 0);
+        plain(x);
+        x.hand();
+        x.shift(0, 0, 48, 0);
+        due("first 2: before", ticks20(x, 2), 0);
+        due("first 2", ticks20(x, 1), 1);
+        x.value(1, 20);
+        due("up 3: before", ticks20(x, 2), 0);
+        due("up 3: before", x.letter(0, 3), 0);
+        due("again 5: before", ticks20(x, 2), 0);
+        due("up 3", x.letter(0, 3), -2);
+        due("up 3", x.letter(0, 4), 6);
+        due("again 5", ticks20(x, 1), 1);
+        due("each 20: before", ticks20(x, 19), 0);
+        due("each 20", ticks20(x, 1), 1);
+        due("why", x.why(2), 3);
     }
 
     // ------------------------------------------------------------------ 8 to 10
