@@ -26,7 +26,7 @@ public final class AlarmTower {
     private static final int MAX_WAIT = 10;
     private static final int MAX_GRADE = 5;
     private static final int ROUND = 48;
-    private static final double MAX_VALUE = 1000000000000.0;
+    private static final long MAX_VALUE = 1000000000000L;
 
     private static final int OVER = 0;
     private static final int BACK = 1;
@@ -77,7 +77,7 @@ public final class AlarmTower {
     private final ArrayList<Alarm> alarms = new ArrayList<>();
     private final ArrayList<Group> groups = new ArrayList<>();
     private final ArrayList<Letter> letters = new ArrayList<>();
-    private final ArrayList<Board> boards = new ArrayList<>();
+    private final Board[] boards = new Board[BOARDS];
     private final Roster roster = new Roster();
     private final int[] askedRow = new int[MAX_HANDS];
     private int holdCount = 0;
@@ -90,7 +90,7 @@ public final class AlarmTower {
 
     public AlarmTower() {
         for (int d = 0; d < BOARDS; d++) {
-            boards.add(new Board());
+            boards[d] = new Board();
         }
     }
 
@@ -823,7 +823,7 @@ public final class AlarmTower {
     }
 
     private Board boardAt(int d) {
-        return d >= 0 && d < boards.size() ? boards.get(d) : null;
+        return d >= 0 && d < boards.length ? boards[d] : null;
     }
 
     private Watch watchOf(int r, int s) {

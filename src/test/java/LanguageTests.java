@@ -38,6 +38,10 @@ public final class LanguageTests {
         "\\bMath\\.(?!min\\b|max\\b|abs\\b|floorMod\\b|floorDiv\\b)", "^import (?!java\\.util\\.(ArrayList|Arrays|List);)",
         "\" *\\+", "\\+ *\"", "[^\\x00-\\x7e]"};
 
+    /** Of what a static field may be; there are no enums in the program. */
+    private static final List<Class<?>> CONSTANTS = List.of(int.class, long.class, boolean.class, char.class, String.class,
+        int[].class, long[].class, char[].class, byte[].class);
+
     private LanguageTests() {
     }
 
@@ -60,6 +64,24 @@ public final class LanguageTests {
             }
         }
         lengths(lines);
+        constructors(lines);
+    }
+
+    /** What a constructor makes is new; a call from there might be one that another class has overridden. */
+    private static void constructors(List<String> lines) {
+        Pattern head = Pattern.compile("^( {4}| {8})(public )?[A-Z]\\w*\\(.*\\) \\{$");
+        Pattern call = Pattern.compile("(?<!new )\\b\\w+\\(|\\bthrow\\b");
+        int found = 0;
+        for (int i = 0; i < lines.size(); i++) {
+            Matcher begins = head.matcher(lines.get(i));
+            if (begins.matches()) {
+                found++;
+                for (int k = i + 1; k < lines.size() && !lines.get(k).equals(begins.group(1) + "}"); k++) {
+                    Expect.due("a call in the constructor at line " + (k + 1), call.matcher(lines.get(k)).find() ? 1 : 0, 0);
+                }
+            }
+        }
+        Expect.due("constructors were found", found > 1 ? 1 : 0, 1);
     }
 
     /** A method goes from a line that ends in a brace to the brace that stands as far in. */
@@ -123,6 +145,9 @@ public final class LanguageTests {
             fields += isStatic ? 0 : 1;
             if (isStatic && !Modifier.isFinal(field.getModifiers())) {
                 Expect.fault("static state: " + field);
+            }
+            if (isStatic && !CONSTANTS.contains(field.getType())) {
+                Expect.fault("no constant of such a kind: " + field);
             }
         }
         Expect.due("fields of " + each + " at most twenty", fields <= 20 ? 1 : 0, 1);
